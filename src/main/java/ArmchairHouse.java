@@ -1523,8 +1523,9 @@ public final class ArmchairHouse {
         void playGroup(int chairs) {
             clearFelt(chairs);
             int leads = plan.leads();
+            int minutes = plan.minutes(play);
             int still = chairs;
-            for (int minute = 0; minute < plan.minutes(play) && still != 0; minute++) {
+            for (int minute = 0; minute < minutes && still != 0; minute++) {
                 int begun = still;
                 int sharers = Integer.bitCount(begun);
                 for (int i = 0; i < MOST_CHAIRS; i++) {

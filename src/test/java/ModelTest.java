@@ -15,7 +15,7 @@ public final class ModelTest {
     private static int wrong = 0;
 
     public static void main(String[] args) {
-        int runs = args.length > 0 ? Integer.parseInt(args[0]) : 1500;
+        int runs = args.length > 0 ? Integer.parseInt(args[0]) : 800;
         long from = args.length > 1 ? Long.parseLong(args[1]) : 1;
         int calls = 0;
         for (int i = 0; i < runs && wrong < 20; i++) {

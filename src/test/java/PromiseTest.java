@@ -135,6 +135,11 @@ public final class PromiseTest {
         due("it stays", x.count(5), 240);
         due("end(239)", x.end(239), true);
         due("two more", x.feed(0x0101, 0, 0, 0, 0), -1);
+        due("two more", x.feed(0, 0x0101, 0, 0, 0), -1);
+        due("two more", x.feed(0, 0, 0x0101, 0, 0), -1);
+        due("two more", x.feed(0, 0, 0, 0x0101, 0), -1);
+        due("two more", x.feed(0, 0, 0, 0, 0x0101), -1);
+        due("two more", x.feed(0, 1, 0, 1 << 24, 0), -1);
         due("refused whole", x.count(5), 239);
         due("one more", x.feed(1, 0, 0, 0, 0), 240);
         promise = "3";
@@ -660,6 +665,7 @@ public final class PromiseTest {
         x.ill(0);
         due("ill, the row", x.most(1, 0), 102);
         due("ill, that", x.most(1, 1), 13);
+        due("w 99 can be", by("sl99;pm9;c;t", "y:11").tickets(0, 99, 0), 0);
         // six by six: each sitter once is best, the least row is rising
         x = by("pm1;c;c;c;c;c;c;t;t;t;t;t;t", "y:n=1?9;y:0");
         due("rising", x.most(0, 0), 12345);
@@ -718,6 +724,13 @@ public final class PromiseTest {
         due("ten", x.howled(2, 0, 8, 99, false), -1);
         due("count", x.count(11), 10);
         promise = "29";
+        x = at(THREE);
+        for (int i = 1; i <= 9; i++) {
+            x.howled(0, 0, 0, 0, true);
+        }
+        due("nothing told by nine", x.whose(0), 7);
+        due("the tenth", x.howled(0, 1, 0, 4, true), 10);
+        due("the tenth tells", x.whose(0), 4);
         // evening 0, whatever it is
         x = by("sl99;p;c;t", "y:e+4");
         x.evening(0);
@@ -850,6 +863,7 @@ public final class PromiseTest {
         due("play -1", x.hardens(0, -1), -1);
         due("with none", at("sl1;p;c;t").hardens(0, 0), -1);
         due("a heart between", by("sl9;p;c;t", "y:h=6?1;y:9").hardens(0, 0), 6);
+        due("a heart of 0", by("sl9;p;c;t", "y:h=0?1;y:9").hardens(0, 0), 0);
         due("apart", chair(x, 2, 0), 9);
     }
 
@@ -995,7 +1009,9 @@ public final class PromiseTest {
             due("years", x.years(30, i), 30 * i);
         }
         due("beyond", x.years(10, 1), -1);
-        due("years(7)", x.years(7, 1), 997);
+        due("up to 999", x.years(9, 1), 999);
+        x.undo();
+        due("the last but one", x.undo(), 38);
         due("beyond still", x.years(3, 1), -1);
         due("a run up to 999", x.run(0, 0), 2);
         due("moved", x.run(0, 1), 18);
