@@ -162,7 +162,37 @@ final class Sheet {
         }
     }
 
+    /** Something of everything: LAWS, SEASONS, HOWLED, an IMAGE, seven ACTS, two lines of LOG, one ILL, a TAPE. */
+    ArmchairHouse rich() {
+        ArmchairHouse x = at("sl10p4;pa9b0c4m5;pa1b2c3m1;ch6t0m10;ch3t0m3;ch9t1m50;td1;td4;td0");
+        tell(x, 1, "y:f+h-d");
+        tell(x, 1, "y:e+9");
+        x.law(0);
+        tell(x, 2, "e1;x02;i2");
+        tell(x, 2, "e0;e0");
+        x.flu(3);
+        x.howled(0, 1, 0, 3, true);
+        x.evening(1);
+        x.image();
+        x.evening(0);
+        x.change(0, 2);
+        x.ill(1);
+        x.heart(2, 4);
+        x.give(1, 5);
+        x.price(3);
+        put(x, "e1");
+        return x;
+    }
+
     // ---- what is refused
+
+    /** A question, whatever it answers. */
+    void changesNothing(String call, ToIntFunction<ArmchairHouse> ask) {
+        ArmchairHouse x = rich();
+        ask.applyAsInt(x);
+        ask.applyAsInt(x);
+        same(call, picture(x), picture(rich()));
+    }
 
     /** The answer, and that all is as on another object that was made so and not asked. */
     void refused(Supplier<ArmchairHouse> make, String call, ToIntFunction<ArmchairHouse> ask, int want) {
