@@ -162,14 +162,18 @@ final class Sheet {
         }
     }
 
-    /** Something of everything: LAWS, SEASONS, HOWLED, an IMAGE, seven ACTS, two lines of LOG, one ILL, a TAPE. */
+    /**
+     * Something of everything: 3 CHAIRS, 4 SITTERS, 2 PLAYS, 2 LAWS, SEASONS of 3, 2 and 1 STEPS, one HOWLED, an IMAGE,
+     * seven ACTS, two lines of LOG, one ILL, a TAPE.
+     */
     ArmchairHouse rich() {
-        ArmchairHouse x = at("sl10p4;pa9b0c4m5;pa1b2c3m1;ch6t0m10;ch3t0m3;ch9t1m50;td1;td4;td0");
+        ArmchairHouse x = at("sl10p4;pa9b0c4m5;pa1b2c3m1;ch6t0m10;ch3t0m3;ch9t1m50;td1;td4;td0;td2");
         tell(x, 1, "y:f+h-d");
         tell(x, 1, "y:e+9");
         x.law(0);
         tell(x, 2, "e1;x02;i2");
         tell(x, 2, "e0;e0");
+        tell(x, 2, "i3");
         x.flu(3);
         x.howled(0, 1, 0, 3, true);
         x.evening(1);
@@ -201,13 +205,17 @@ final class Sheet {
         same(call, picture(x), picture(make.get()));
     }
 
-    /** All that can be seen of an object; it is used up by it. */
+    /** What can be seen of an object (of a long LOG and of many ACTS the latest); it is used up by it. */
     private static String picture(ArmchairHouse x) {
         StringBuilder s = new StringBuilder("counts");
         for (int i = 0; i < 14; i++) {
             s.append(' ').append(x.count(i));
         }
         s.append(" faults ").append(x.fault(0)).append(' ').append(x.fault(1)).append(' ').append(x.fault(2));
+        s.append(" leads ").append(x.rule(0)).append(" sitters");
+        for (int sitter = 0; sitter < x.count(1); sitter++) {
+            s.append(' ').append(x.sitter(sitter, 0));
+        }
         for (int play = 0; play < x.count(2); play++) {
             s.append(" play");
             for (int what = 0; what < 4; what++) {
@@ -217,19 +225,23 @@ final class Sheet {
         for (int season = 0; season < x.count(4); season++) {
             s.append(" season ").append(x.run(season, 1));
             for (int i = 0; x.step(season, i, 0) != HIDDEN; i++) {
-                s.append(' ').append(x.step(season, i, 1)).append(x.step(season, i, 2));
+                s.append(' ').append(x.step(season, i, 0)).append(x.step(season, i, 1)).append(x.step(season, i, 2));
             }
         }
-        for (int i = 0; x.log(i, 0) != NONE; i++) {
+        for (int i = 0; i < 12 && x.log(i, 0) != NONE; i++) {
             s.append(" log ").append(x.log(i, 0)).append(' ').append(x.log(i, 1)).append(' ').append(x.log(i, 2));
         }
         now(x, s);
-        while (x.undo() != NONE) {
+        for (int i = 0; i < 8 && x.undo() != NONE; i++) {
             s.append(" undone");
             now(x, s);
         }
         s.append(" back ").append(x.back());
         now(x, s);
+        for (int law = 0; law < x.count(3); law++) {
+            x.law(law);
+            s.append(" law ").append(x.feels(0, 0, 0)).append(' ').append(x.feels(0, 0, 1));
+        }
         for (int sort = 0; sort < 3; sort++) {
             s.append(" text ").append(x.text(sort));
         }
