@@ -25,6 +25,7 @@ public final class RefusalEdgesTest {
         tapeIsFull();
         tapeEnds();
         faults();
+        readAgain();
         texts();
         anotherHouse();
         rules();
@@ -367,6 +368,66 @@ public final class RefusalEdgesTest {
         x.end(0);
         Sheet.put(x, "e1;");
         SHEET.due("the fault of a fifth season", x.fault(2), 3);
+    }
+
+    /** What was read ahead, with a FAULT or without, does not matter. */
+    private static void readAgain() {
+        SHEET.says("The FAULT of the TAPE as a HOUSE (0), a LAW (1), a SEASON (2).", 4);
+        String[][] texts = {
+            {"p;c;t", "s;p;p;p;p;c;c;c;c;c;c;t;t;t;t;t;t;q", "sl1p1;pa0b0c0m1;ch0t0m0;td0;x", "p;c;t", "p;c;ct5;t"},
+            {"y:1", "y:((((((1=1", "y:[[[[[[1", "y:!!!!!!1", "y:1=1|1=1&!1=2", "y:1=1?", "y:[1", "y:(1=1|(1=1&1=1",
+                "y:1;y:f=2?3;y:", "y:!1", "y:1+"},
+            {"e0", "e0;x01;i0;e", "x0", "e0;e0;e0;e0;e0;e0;e0;e0;e0;e0;e0;e0;e0;e0;e0;e0;", ""}};
+        String[][] wholes = {{"p;c;t", "t;c;p;s", "p;c;c;c;c;c;c;t"},
+            {"y:1", "y:((((((1=1))))))?1", "y:[[[[[[1]]]]]]", "y:!!!!!!1=1?1", "y:f", "y:(f=1|f=3)&f=3?7;y:2"},
+            {"e0", "x01;i2", "i1;i1;i1"}};
+        for (int sort = 0; sort < 3; sort++) {
+            for (String ahead : texts[sort]) {
+                for (String whole : wholes[sort]) {
+                    readBehind(sort, ahead, whole, false);
+                    readBehind(sort, ahead, whole, true);
+                }
+            }
+        }
+    }
+
+    private static void readBehind(int sort, String ahead, String whole, boolean twice) {
+        ArmchairHouse x = new ArmchairHouse();
+        Sheet.put(x, ahead);
+        int fault = x.fault(sort);
+        SHEET.due("the fault of '" + ahead + "', again", twice ? x.fault(sort) : fault, fault);
+        x.end(0);
+        Sheet.put(x, whole);
+        SHEET.due("behind '" + ahead + "' the fault of '" + whole + "'", twice ? x.fault(sort) : NONE, NONE);
+        SHEET.due("behind '" + ahead + "' it is taken: '" + whole + "'", x.text(sort) >= 0, true);
+        ArmchairHouse y = new ArmchairHouse();
+        Sheet.tell(y, sort, whole);
+        alike(ahead, whole, x, y);
+    }
+
+    private static void alike(String ahead, String whole, ArmchairHouse x, ArmchairHouse y) {
+        String call = "behind '" + ahead + "', of '" + whole + "': ";
+        if (x.count(0) == 0) {
+            Sheet.tell(x, 0, "pm9;c;ct1;t;t;t");
+            Sheet.tell(y, 0, "pm9;c;ct1;t;t;t");
+        }
+        x.law(0);
+        y.law(0);
+        for (int c = 0; c < y.count(0); c++) {
+            SHEET.due(call + "feels", x.feels(c, 0, 0), y.feels(c, 0, 0));
+            SHEET.due(call + "heart", Sheet.chair(x, c, 0), Sheet.chair(y, c, 0));
+            SHEET.due(call + "ticket", Sheet.chair(x, c, 1), Sheet.chair(y, c, 1));
+        }
+        for (int i = 0; i < 17; i++) {
+            for (int what = 0; what < 3; what++) {
+                SHEET.due(call + "step", x.step(0, i, what), y.step(0, i, what));
+            }
+        }
+        for (int i = 0; i < 5; i++) {
+            SHEET.due(call + "count(" + i + ")", x.count(i), y.count(i));
+        }
+        SHEET.due(call + "rule(0)", x.rule(0), y.rule(0));
+        SHEET.due(call + "drama(0, 0)", x.drama(0, 0), y.drama(0, 0));
     }
 
     private static void texts() {
@@ -816,7 +877,8 @@ public final class RefusalEdgesTest {
         outside("sum", PLAYS, NONE, (x, v) -> x.peak(v, 1));
         outside("peak of what", 2, NONE, (x, v) -> x.peak(1, v));
         SHEET.says("0 CHAIRS, 1 SITTERS, 2 PLAYS, 3 LAWS, 4 SEASONS, 5 bytes of the TAPE, 6 the LAW that holds "
-            + "(NONE), 7 the EVENING, 8 TEARS of all, 9 ILL ones (bits), 10 FLU, 11 HOWLED, 12 how long the LOG is, 13 ACTS that can be UNDONE.", 43);
+            + "(NONE), 7 the EVENING, 8 TEARS of all, 9 ILL ones (bits), 10 FLU, 11 HOWLED, 12 how long the LOG is, "
+            + "13 ACTS that can be UNDONE.", 43);
         ArmchairHouse x = SHEET.rich();
         int tears = Sheet.chair(x, 0, 3) + Sheet.chair(x, 1, 3) + Sheet.chair(x, 2, 3);
         int[] due = {3, 4, 2, 2, 3, 2, 0, 2, tears, 2, 3, 1, 2, 7};

@@ -438,6 +438,7 @@ public final class TextEdgesTest {
         worth("y:!(1=2&1=2)?8;y:9", 8);
         worth("y:!!!!!!1=1?8;y:9", 8);
         worth("y:!!!!!1=1?8;y:9", 9);
+        truths();
         worth("y:2+3*4", 14);
         worth("y:20-5-3", 12);
         worth("y:90/3/3", 10);
@@ -445,6 +446,53 @@ public final class TextEdgesTest {
         worth("y:9/4*2", 4);
         worth("y:[2+3]*4", 20);
         worth("y:20-[5-3]", 18);
+    }
+
+    private static void truths() {
+        SHEET.says("CONDITION: TRUTHS with | between; TRUTH: UNITS with & between; UNIT: ! UNIT, ( CONDITION ), "
+            + "or SUM, one of = < >, SUM.", 10, 24);
+        String[] truth = {"f=3", "f<4", "f>2", "(f=3)", "!f=4", "!!f<4"};
+        String[] lie = {"f=4", "f<3", "f>3", "(f=4)", "!f=3", "!!f>3"};
+        for (int i = 0; i < truth.length; i++) {
+            worth("y:" + truth[i] + "?8;y:9", 8);
+            worth("y:" + lie[i] + "?8;y:9", 9);
+            worth("y:!" + truth[i] + "?8;y:9", 9);
+            worth("y:!" + lie[i] + "?8;y:9", 8);
+            for (int j = 0; j < truth.length; j++) {
+                joined(truth[i], truth[j], true, true);
+                joined(truth[i], lie[j], true, false);
+                joined(lie[i], truth[j], false, true);
+                joined(lie[i], lie[j], false, false);
+            }
+        }
+        String[] signs = {"=", "<", ">"};
+        for (int left = 0; left < 8; left++) {
+            for (int right = 0; right < 8; right++) {
+                boolean[] holds = {left == right, left < right, left > right};
+                for (int i = 0; i < 3; i++) {
+                    int due = holds[i] ? 8 : 9;
+                    worth("y:" + left + "+0" + signs[i] + right + "+0?8;y:9", due);
+                    worth("y:9-" + (9 - left) + signs[i] + "9-" + (9 - right) + "?8;y:9", due);
+                    worth("y:" + left + "*1" + signs[i] + "1*" + right + "?8;y:9", due);
+                    worth("y:" + left + "/1-1" + signs[i] + right + "/1-1?8;y:9", due);
+                    worth("y:1+" + left + signs[i] + right + "-0-0-0+1&1=1?8;y:9", due);
+                    worth("y:2=1|1+" + left + signs[i] + "[" + right + "+1]*1?8;y:9", due);
+                }
+            }
+        }
+    }
+
+    private static void joined(String left, String right, boolean leftHolds, boolean rightHolds) {
+        int either = leftHolds || rightHolds ? 8 : 9;
+        int both = leftHolds && rightHolds ? 8 : 9;
+        String[] signs = {"|", "&"};
+        int[] due = {either, both};
+        for (int i = 0; i < 2; i++) {
+            String condition = left + signs[i] + right;
+            worth("y:" + condition + "?8;y:9", due[i]);
+            worth("y:(" + condition + ")?8;y:9", due[i]);
+            worth("y:!(" + condition + ")?8;y:9", 17 - due[i]);
+        }
     }
 
     private static void stepsOfSeasons() {
